@@ -104,7 +104,8 @@ public final class JudgeTapesTest {
         x.sample(2);
         x.type(1, 4);
         x.key(1);
-        x.run(2);
+        x.run(4);
+        Due.is("fault(2, 1)", x.fault(2, 1), 12);
         x.see(0, true);
         x.plan(0, 3);
         x.plan(0, 4);
@@ -126,7 +127,10 @@ public final class JudgeTapesTest {
         Due.is("column(0, 3)", x.column(0, 3), 2);
         Due.is("column(1, 3)", x.column(1, 3), 4);
         Due.is("value(1, 0)", x.value(1, 0), 2000);
+        Due.is("fault(2, 0)", x.fault(2, 0), 5);
         Due.is("fault(2, 1)", x.fault(2, 1), 30);
+        Due.is("fault(2, 2)", x.fault(2, 2), -5);
+        Due.is("fault(1, 0)", x.fault(1, 0), -5);
         Due.is("of(2, 2)", x.of(2, 2), -5);
         Due.is("of(1, 2)", x.of(1, 2), 1);
         Due.is("count(0)", x.count(0), 3);

@@ -444,7 +444,7 @@ final class Model {
         for (int[] row : before.plan) {
             if (row[0] == 0) run(row[1]);
             if (row[0] == 1) {
-                isUnclear |= s.mark > 0;
+                isUnclear |= s.mark > 0 && s.key != row[1];
                 s.key = row[1];
             }
             if (row[0] == 2) {

@@ -274,6 +274,21 @@ public final class WhatIfTest {
         endsAre(x, 4, 0);
         x.run(24);
         Due.is("told(1)", x.told(1), 3);
+        x.plan(-1, 0);
+        x.plan(1, 1);
+        endsAre(x, 3, 1);
+        FeatureImport y = Given.table("a,b", "1,1", "1,2", "2,2", "1,3", "3,3");
+        y.key(0);
+        y.plan(0, 1);
+        y.plan(0, 2);
+        y.plan(0, 24);
+        endsAre(y, 3, 2);
+        y.run(2);
+        y.plan(-1, 0);
+        y.plan(1, 0);
+        endsAre(y, 1, 1);
+        y.plan(0, 24);
+        endsAre(y, 3, 2);
     }
 
     private static void book() {
