@@ -7,8 +7,14 @@ final class Due {
 
     private static int wrong = 0;
     private static int calls = 0;
+    private static String sentence = "";
 
     private Due() {
+    }
+
+    /** The sentence of the document that is looked at from here on. */
+    static void sentence(String words) {
+        sentence = words + ": ";
     }
 
     static void newObject() {
@@ -27,7 +33,7 @@ final class Due {
 
     static void fail(String what) {
         wrong++;
-        System.out.println(what);
+        System.out.println(sentence + what);
     }
 
     static void end() {
