@@ -438,23 +438,22 @@ final class Model {
 
     int ends(int what) {
         if (what < 0 || what > 1) return -1;
+        int told = endsAs(what, false);
+        return told == endsAs(what, true) ? told : UNCLEAR;
+    }
+
+    /** ENDS, where a PLAN's KEY counts when a LINE is IMPORTED, or is refused as key() refuses it. */
+    private int endsAs(int what, boolean isKeyRefused) {
         State before = s;
         s = before.copy();
-        boolean isUnclear = false;
         for (int[] row : before.plan) {
             if (row[0] == 0) run(row[1]);
-            if (row[0] == 1) {
-                isUnclear |= s.mark > 0 && s.key != row[1];
-                s.key = row[1];
-            }
-            if (row[0] == 2) {
-                reset();
-                isUnclear = false;
-            }
+            if (row[0] == 1 && !(isKeyRefused && s.mark > 0)) s.key = row[1];
+            if (row[0] == 2) reset();
         }
         int answer = what == 0 ? rows(now()) : faulty(now());
         s = before;
-        return isUnclear ? UNCLEAR : answer;
+        return answer;
     }
 
     int book(int column, int type) {
